@@ -428,7 +428,7 @@ public final class TrapMachine {
     private void raise(int code) {
         controls.enter(code, place);
         if (code == NOT_MAPPED) {
-            controls.setDirect(true);
+            controls.setDirect();
             place = controls.get(Controls.REFILL);
         } else {
             place = controls.get(Controls.ENTRY);
@@ -553,8 +553,8 @@ public final class TrapMachine {
             return (values[MODE] & DIRECT) != 0;
         }
 
-        private void setDirect(boolean direct) {
-            values[MODE] = values[MODE] & ~DIRECT | (direct ? DIRECT : 0);
+        private void setDirect() {
+            values[MODE] |= DIRECT;
         }
 
         private boolean isEmpty() {

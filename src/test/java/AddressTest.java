@@ -16,6 +16,7 @@ public final class AddressTest {
             spaces(use);
         }
         refillAndBack();
+        backWhileMapped();
         Check.end();
     }
 
@@ -177,6 +178,22 @@ public final class AddressTest {
         Check.due("MODE stays", clash.x.control(Rig.MODE), 3);
         Check.due("PLACE stays", clash.x.register(8), use == FETCH ? 4096 : CODE_PAGE);
         Check.due("register stays", clash.x.register(1), 42);
+    }
+
+    /** Only an exception 63 changes DIRECT, on its way in and on its way back. */
+    private static void backWhileMapped() {
+        Rig rig = mapped();
+        rig.control(Rig.ENTRY, CODE_PAGE + 64);
+        rig.x.load(CODE_PAGE + 64, Rig.op(26, 0, 0, 0));
+        rig.x.load(CODE_PAGE, Rig.op(16, 0, 0, 0));
+        rig.control(Rig.MODE, 3);
+        rig.x.jump(CODE_PAGE);
+        rig.x.run(1);
+        rig.dueException("a call", 11, CODE_PAGE, 0, 0);
+        Check.due("mapped in the handler", rig.x.control(Rig.MODE), 0);
+        Check.due("BACK", rig.x.run(1), 1);
+        Check.due("mapped after it", rig.x.control(Rig.MODE), 3);
+        Check.due("PLACE", rig.x.register(8), CODE_PAGE);
     }
 
     /** A whole round: the handler fills the buffer, and the instruction is done at the second try. */

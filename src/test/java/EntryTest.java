@@ -17,6 +17,7 @@ public final class EntryTest {
         for (int kind = 0; kind <= 4; kind++) {
             empty(kind);
         }
+        emptyFarPair();
         emptyRefused();
         Check.end();
     }
@@ -115,12 +116,12 @@ public final class EntryTest {
 
     private static void read() {
         Rig rig = new Rig();
-        rig.entry(1, FAR, 9, 65, 67);
+        rig.entry(1, FAR, 9, 64, 66);
         rig.entry(2, 256, 7, 79 | Rig.GLOBAL, 64 | Rig.GLOBAL);
         rig.control(Rig.SPACE, 4);
         rig.control(Rig.INDEX, Rig.EMPTY_BIT | 1);
         rig.exec(22, 0, 0, 0);
-        dueRead(rig, 1, FAR, 65, 67, 9);
+        dueRead(rig, 1, FAR, 64, 66, 9);
         rig.control(Rig.INDEX, 2);
         rig.exec(22, 0, 0, 0);
         dueRead(rig, 2, 256, 79 | Rig.GLOBAL, 64 | Rig.GLOBAL, 7);
@@ -155,6 +156,17 @@ public final class EntryTest {
         dueEntry(rig, 3, left >> 3, 2, 5, 0, 1, 1);
         Check.due("PLACE", rig.x.register(8), 12);
         Check.due("no exception", rig.code(), 0);
+    }
+
+    private static void emptyFarPair() {
+        Rig rig = new Rig();
+        rig.entry(1, FAR, 0, 1, 1);
+        rig.set(2, FAR - 4);
+        rig.exec(25, 0, 2, 4);
+        Check.due("the pair before it", rig.x.entry(1, 0), 1);
+        rig.set(2, -1);
+        rig.exec(25, 0, 2, 4);
+        Check.due("the last pair of all", rig.x.entry(1, 0), 0);
     }
 
     private static void emptyRefused() {

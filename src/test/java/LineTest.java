@@ -17,19 +17,24 @@ public final class LineTest {
             Check.refused("line " + k + " down", () -> x.line(k, false));
         }
         Check.due("STATUS after refusals", x.control(3), 13);
+        x.line(0, false);
+        x.line(1, false);
+        Check.due("lines 0 and 1 down", x.control(3), 12);
         linesAreNotWritten();
         linesInterrupt();
         Check.end();
     }
 
     private static void linesAreNotWritten() {
-        Rig rig = new Rig();
-        rig.x.line(2, true);
-        rig.control(Rig.STATUS, -1);
-        Check.due("STATUS written with ones", rig.x.control(Rig.STATUS), 4);
-        rig.control(Rig.STATUS, 0);
-        Check.due("STATUS written with zeros", rig.x.control(Rig.STATUS), 4);
-        Check.due("the old one in the register", rig.x.register(7), 4);
+        for (int k = 0; k <= 3; k++) {
+            Rig rig = new Rig();
+            rig.x.line(k, true);
+            rig.control(Rig.STATUS, -1);
+            Check.due("STATUS written with ones", rig.x.control(Rig.STATUS), 1 << k);
+            rig.control(Rig.STATUS, 0);
+            Check.due("STATUS written with zeros", rig.x.control(Rig.STATUS), 1 << k);
+            Check.due("the old one in the register", rig.x.register(7), 1 << k);
+        }
     }
 
     private static void linesInterrupt() {
@@ -53,5 +58,9 @@ public final class LineTest {
         rig.x.jump(64);
         Check.due("none when not ENABLED", rig.x.run(1), 1);
         Check.due("then the word is done", rig.x.register(1), 2);
+        rig.control(Rig.MODE, 11);
+        rig.x.jump(64);
+        Check.due("nor at level 3", rig.x.run(1), 1);
+        Check.due("the word is done there", rig.x.register(1), 3);
     }
 }

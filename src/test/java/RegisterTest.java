@@ -75,6 +75,8 @@ public final class RegisterTest {
         Check.due("bytes that are high", rig.x.register(1), 0xFFFE00);
         rig.exec(7, 1, 0, 1);
         Check.due("bytes that are low", rig.x.register(1), 256);
+        rig.exec(7, 1, 0x12, 0x34);
+        Check.due("each byte in its place", rig.x.register(1), 0x123400);
         Check.due("PLACE", rig.x.register(8), 12);
     }
 
@@ -102,6 +104,15 @@ public final class RegisterTest {
         rig.exec(9, 1, 2, 1);
         rig.dueException("STORE at 1", 9, 8, 1, 0);
         Check.due("memory stays", rig.x.word(0), 0);
+        rig.exec(9, 1, 2, 0);
+        Check.due("STORE at 0", rig.x.word(0), 0xABCDEF);
+        rig.exec(8, 3, 2, 0);
+        Check.due("LOAD at 0", rig.x.register(3), 0xABCDEF);
+        rig.execAt(0, 0, Rig.op(6, 3, 0, 1));
+        Check.due("the word at 0 is done", rig.x.register(3), 1);
+        rig.execAt(2044, 2044, Rig.op(6, 3, 0, 2));
+        Check.due("and the one at 2044", rig.x.register(3), 2);
+        Check.due("PLACE is behind memory", rig.x.register(8), 2048);
     }
 
     private static void links() {
