@@ -2,15 +2,30 @@
 final class Check {
     private static int wrong = 0;
     private static int asked = 0;
+    private static String sentence = "";
 
     private Check() {
+    }
+
+    /** A sentence of the document, in its own words, and the test that is its own. */
+    static void sentence(String words, Runnable test) {
+        int before = asked;
+        sentence = "[" + words + "] ";
+        try {
+            test.run();
+        } catch (RuntimeException e) {
+            tellWrong("threw " + e);
+        }
+        if (asked == before) {
+            tellWrong("asked nothing");
+        }
+        sentence = "";
     }
 
     static void due(String what, long got, long want) {
         asked++;
         if (got != want) {
-            wrong++;
-            System.out.println(what + " answered " + got + ", due is " + want);
+            tellWrong(what + " answered " + got + ", due is " + want);
         }
     }
 
@@ -24,9 +39,13 @@ final class Check {
             thrown = e.getClass().getName();
         }
         if (!thrown.equals("java.lang.IllegalArgumentException")) {
-            wrong++;
-            System.out.println(what + " threw " + thrown + ", due is IllegalArgumentException");
+            tellWrong(what + " threw " + thrown + ", due is IllegalArgumentException");
         }
+    }
+
+    private static void tellWrong(String how) {
+        wrong++;
+        System.out.println(sentence + how);
     }
 
     static void end() {

@@ -1,181 +1,117 @@
-/** Promise 11: the buffer, and the instructions that use it. */
+/** Promise 11. */
 public final class EntryTest {
-    private static final int FAR = 0xFFFFFF80;
+    private static final int THERE = 0;
+    private static final int PAIR = 1;
+    private static final int SPACE = 2;
+    private static final int GLOBAL = 3;
+    private static final int EVEN = 4;
+    private static final int ODD = 5;
+    private static final int[] WRONG = {-1, -4, 6, 7, 8, 64, Integer.MIN_VALUE, Integer.MAX_VALUE};
 
     public static void main(String[] args) {
-        TrapMachine x = new TrapMachine();
-        for (int e : new int[] {-1, 4, 5, Integer.MIN_VALUE, Integer.MAX_VALUE}) {
-            Check.refused("entry " + e, () -> x.entry(e, 0));
-            Check.refused("part " + (e == 4 || e == 5 ? e + 2 : e), () -> x.entry(0, e == 4 || e == 5 ? e + 2 : e));
-            Check.refused("both", () -> x.entry(e, 6));
-        }
-        write();
-        global();
-        emptyOnes();
-        search();
-        read();
-        for (int kind = 0; kind <= 4; kind++) {
-            empty(kind);
-        }
-        emptyFarPair();
-        emptyRefused();
+        Check.sentence("whether it is there (what 0; 1 or 0)", EntryTest::there);
+        Check.sentence("its pair (1)", EntryTest::pair);
+        Check.sentence("space (2)", EntryTest::space);
+        Check.sentence("GLOBAL (3)", EntryTest::global);
+        Check.sentence("EVEN (4)", () -> half(EVEN));
+        Check.sentence("ODD (5)", () -> half(ODD));
+        Check.sentence("both as control registers show them, without GLOBAL", EntryTest::halvesWithoutGlobal);
+        Check.sentence("IllegalArgumentException when e is not as said", EntryTest::refusesEntries);
+        Check.sentence("IllegalArgumentException when what is not as said", EntryTest::refusesParts);
         Check.end();
     }
 
-    private static void dueEntry(Rig rig, int e, int... parts) {
-        for (int what = 0; what < parts.length; what++) {
-            Check.due("entry " + e + ", " + what, rig.x.entry(e, what), parts[what]);
+    private static void there() {
+        for (int e = 0; e <= 3; e++) {
+            Rig rig = new Rig();
+            Check.due("at first", rig.x.entry(e, THERE), 0);
+            rig.entry(e, 0, 0, 0, 0);
+            Check.due("written", rig.x.entry(e, THERE), 1);
+            rig.exec(25, 0, 0, 0);
+            Check.due("emptied", rig.x.entry(e, THERE), 0);
         }
     }
 
-    private static void write() {
+    private static void pair() {
+        int[][] pairs = {{0, 0}, {127, 0}, {128, 1}, {0x80000000, 0x1000000}, {-1, 0x1FFFFFF}};
         for (int e = 0; e <= 3; e++) {
             Rig rig = new Rig();
-            rig.entry(e, -1, 13, Rig.half(31, Rig.FREE), Rig.half(9, 1));
-            dueEntry(rig, e, 1, 0x1FFFFFF, 13, 0, 31 << 6 | 15, 9 << 6 | 1);
-            Check.due("PLACE", rig.x.register(8), 12);
-            for (int other = 0; other <= 3; other++) {
-                if (other != e) {
-                    dueEntry(rig, other, 0, 0, 0, 0, 0, 0);
-                }
+            for (int[] pair : pairs) {
+                rig.entry(e, pair[0], 0, 0, 0);
+                Check.due("pair of " + pair[0], rig.x.entry(e, PAIR), pair[1]);
+            }
+        }
+    }
+
+    private static void space() {
+        for (int e = 0; e <= 3; e++) {
+            Rig rig = new Rig();
+            for (int space : new int[] {0, 1, 8, 15}) {
+                rig.entry(e, 0, space, 0, 0);
+                Check.due("space", rig.x.entry(e, SPACE), space);
             }
         }
     }
 
     private static void global() {
+        for (int e = 0; e <= 3; e++) {
+            for (int both = 0; both <= 3; both++) {
+                Rig rig = new Rig();
+                rig.entry(e, 0, 0, (both & 1) * Rig.GLOBAL, (both >> 1) * Rig.GLOBAL);
+                Check.due("GLOBAL", rig.x.entry(e, GLOBAL), both == 3 ? 1 : 0);
+            }
+        }
+    }
+
+    private static void half(int what) {
+        for (int e = 0; e <= 3; e++) {
+            for (int bits : new int[] {0, 1, 2, 12, 64, 31 << 6, 31 << 6 | 15}) {
+                Rig rig = new Rig();
+                rig.entry(e, 0, 0, what == EVEN ? bits : 0, what == ODD ? bits : 0);
+                Check.due("the half", rig.x.entry(e, what), bits);
+                Check.due("the other half", rig.x.entry(e, EVEN + ODD - what), 0);
+            }
+        }
+    }
+
+    private static void halvesWithoutGlobal() {
         for (int both = 0; both <= 3; both++) {
             Rig rig = new Rig();
-            int even = (both & 1) * Rig.GLOBAL;
-            int odd = (both >> 1) * Rig.GLOBAL;
-            rig.entry(1, 256, 2, 65 | even, 67 | odd);
-            dueEntry(rig, 1, 1, 2, 2, both == 3 ? 1 : 0, 65, 67);
+            rig.entry(2, 0, 0, 0x7CF | (both & 1) * Rig.GLOBAL, 0x41 | (both >> 1) * Rig.GLOBAL);
+            Check.due("EVEN", rig.x.entry(2, EVEN), 0x7CF);
+            Check.due("ODD", rig.x.entry(2, ODD), 0x41);
         }
-    }
-
-    /** EMPTY and the code of STATUS say whether what is written is there. */
-    private static void emptyOnes() {
         Rig rig = new Rig();
-        rig.entry(2, 256, 2, 65, 67);
-        rig.control(Rig.HIGH, 512);
-        rig.control(Rig.INDEX, Rig.EMPTY_BIT | 2);
-        rig.exec(23, 0, 0, 0);
-        dueEntry(rig, 2, 0, 4, 0, 0, 65, 67);
-        rig.x.filled(3);
-        rig.control(Rig.INDEX, 3);
-        rig.exec(24, 0, 0, 0);
-        dueEntry(rig, 3, 1, 4);
-        rig.x.filled(3);
-        rig.control(Rig.INDEX, Rig.EMPTY_BIT);
-        rig.exec(24, 0, 0, 0);
-        dueEntry(rig, 3, 0, 4);
-        Check.due("INDEX stays", rig.x.control(Rig.INDEX), Rig.EMPTY_BIT);
-        rig.control(Rig.REFILL, 8);
-        rig.control(Rig.MODE, 0);
-        rig.x.run(1);
-        rig.dueException("nothing is mapped", 63, 12, 12, 0);
-        rig.exec(24, 0, 0, 0);
-        dueEntry(rig, 0, 1, 0, 0, 0, 65, 67);
-        rig.exec(23, 0, 0, 0);
-        rig.control(Rig.INDEX, Rig.EMPTY_BIT | 1);
-        rig.exec(23, 0, 0, 0);
-        dueEntry(rig, 1, 1, 0, 0, 0, 65, 67);
-        rig.exec(17, 0, 0, 0);
-        rig.exec(23, 0, 0, 0);
-        dueEntry(rig, 1, 0, 0, 0, 0, 65, 67);
+        rig.entry(2, 0, 0, 4, 8);
+        Check.due("a level of 1", rig.x.entry(2, EVEN), 12);
+        Check.due("a level of 2", rig.x.entry(2, ODD), 12);
+        rig.entry(2, 0, 0, -1, -1);
+        Check.due("all bits", rig.x.entry(2, EVEN), 0x7CF);
+        Check.due("of both", rig.x.entry(2, ODD), 0x7CF);
     }
 
-    private static void search() {
-        Rig rig = new Rig();
-        rig.entry(0, 256, 1, 1, 1);
-        rig.entry(1, 256, 2, 1, 1);
-        rig.entry(2, 512, 3, 1 | Rig.GLOBAL, 1 | Rig.GLOBAL);
-        rig.entry(3, FAR, 2, 1, 1);
-        rig.control(Rig.SPACE, 2);
-        dueSearch(rig, 256, 0, 1);
-        dueSearch(rig, 512, 3, 2);
-        dueSearch(rig, FAR, Rig.EMPTY_BIT | 1, 3);
-        dueSearch(rig, 384, 2, Rig.EMPTY_BIT | 2);
-        dueSearch(rig, 384, Rig.EMPTY_BIT | 3, Rig.EMPTY_BIT | 3);
-        rig.control(Rig.SPACE, 1);
-        dueSearch(rig, 256, 3, 0);
-        dueSearch(rig, FAR, 0, Rig.EMPTY_BIT);
-        rig.entry(1, 256, 1, 1, 1);
-        dueSearch(rig, 256, 3, 0);
-        rig.exec(25, 0, 0, 0);
-        dueSearch(rig, 256, 3, Rig.EMPTY_BIT | 3);
+    private static void refusesEntries() {
+        TrapMachine x = new TrapMachine();
+        for (int what = 0; what <= 5; what++) {
+            int part = what;
+            Check.refused("entry 4, " + what, () -> x.entry(4, part));
+            for (int e : WRONG) {
+                Check.refused("entry " + e + ", " + what, () -> x.entry(e, part));
+            }
+        }
+        Check.due("the last one", x.entry(3, 0), 0);
     }
 
-    private static void dueSearch(Rig rig, int high, int index, int want) {
-        rig.control(Rig.HIGH, high);
-        rig.control(Rig.INDEX, index);
-        rig.exec(21, 0, 0, 0);
-        Check.due("SEARCH " + high, rig.x.control(Rig.INDEX), want);
-        Check.due("HIGH stays", rig.x.control(Rig.HIGH), high);
-        Check.due("PLACE", rig.x.register(8), 12);
-    }
-
-    private static void read() {
-        Rig rig = new Rig();
-        rig.entry(1, FAR, 9, 64, 66);
-        rig.entry(2, 256, 7, 79 | Rig.GLOBAL, 64 | Rig.GLOBAL);
-        rig.control(Rig.SPACE, 4);
-        rig.control(Rig.INDEX, Rig.EMPTY_BIT | 1);
-        rig.exec(22, 0, 0, 0);
-        dueRead(rig, 1, FAR, 64, 66, 9);
-        rig.control(Rig.INDEX, 2);
-        rig.exec(22, 0, 0, 0);
-        dueRead(rig, 2, 256, 79 | Rig.GLOBAL, 64 | Rig.GLOBAL, 7);
-        rig.control(Rig.INDEX, 3);
-        rig.exec(22, 0, 0, 0);
-        dueRead(rig, Rig.EMPTY_BIT | 3, 0, 0, 0, 7);
-        Check.due("PLACE", rig.x.register(8), 12);
-    }
-
-    private static void dueRead(Rig rig, int index, int high, int even, int odd, int space) {
-        Check.due("READ: INDEX", rig.x.control(Rig.INDEX), index);
-        Check.due("READ: HIGH", rig.x.control(Rig.HIGH), high);
-        Check.due("READ: EVEN", rig.x.control(Rig.EVEN), even);
-        Check.due("READ: ODD", rig.x.control(Rig.ODD), odd);
-        Check.due("READ: SPACE", rig.x.control(Rig.SPACE), space);
-    }
-
-    private static void empty(int kind) {
-        Rig rig = new Rig();
-        rig.entry(0, 256, 5, 1 | Rig.GLOBAL, 1 | Rig.GLOBAL);
-        rig.entry(1, 256, 6, 1, 1);
-        rig.entry(2, 512, 5, 1, 1);
-        rig.entry(3, 256, 5, 1, 1);
-        rig.control(Rig.SPACE, 6);
-        rig.set(1, 0xF5);
-        rig.set(2, 256 + 127);
-        rig.exec(25, 1, 2, kind);
-        int left = new int[] {0, 14, 1, 3, 7}[kind];
+    private static void refusesParts() {
+        TrapMachine x = new TrapMachine();
         for (int e = 0; e <= 3; e++) {
-            Check.due("EMPTY " + kind + ", entry " + e, rig.x.entry(e, 0), left >> e & 1);
+            int entry = e;
+            for (int what : WRONG) {
+                Check.refused("entry " + e + ", " + what, () -> x.entry(entry, what));
+            }
         }
-        dueEntry(rig, 3, left >> 3, 2, 5, 0, 1, 1);
-        Check.due("PLACE", rig.x.register(8), 12);
-        Check.due("no exception", rig.code(), 0);
-    }
-
-    private static void emptyFarPair() {
-        Rig rig = new Rig();
-        rig.entry(1, FAR, 0, 1, 1);
-        rig.set(2, FAR - 4);
-        rig.exec(25, 0, 2, 4);
-        Check.due("the pair before it", rig.x.entry(1, 0), 1);
-        rig.set(2, -1);
-        rig.exec(25, 0, 2, 4);
-        Check.due("the last pair of all", rig.x.entry(1, 0), 0);
-    }
-
-    private static void emptyRefused() {
-        for (int kind : new int[] {5, 8, 127, 128, 255}) {
-            Rig rig = new Rig();
-            rig.entry(0, 0, 0, 1, 1);
-            rig.exec(25, 0, 0, kind);
-            rig.dueException("EMPTY " + kind, 13, 8, 0, 0);
-            Check.due("the entry is there", rig.x.entry(0, 0), 1);
-        }
+        Check.refused("both not as said", () -> x.entry(4, 6));
+        Check.refused("both below", () -> x.entry(-1, -1));
+        Check.due("the last one", x.entry(0, 5), 0);
     }
 }

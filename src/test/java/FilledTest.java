@@ -1,44 +1,37 @@
 /** Promise 5. */
 public final class FilledTest {
+    private static final int[] KS = {
+        0, 1, 2, 3, 4, 5, 6, 7, -1, -2, -3, -4, 1001, 256, Integer.MIN_VALUE, Integer.MAX_VALUE
+    };
+
     public static void main(String[] args) {
-        for (int k : new int[] {0, 1, 2, 3, 4, 7, -1, -2, 1001, Integer.MIN_VALUE, Integer.MAX_VALUE}) {
-            Rig rig = new Rig();
-            rig.x.filled(k);
-            for (int n = 0; n < 6; n++) {
-                int e = k + n & 3;
-                rig.control(Rig.HIGH, 128 * (n + 1));
-                rig.exec(24, 0, 0, 0);
-                Check.due("filled " + k + ", FILL " + n + ": there", rig.x.entry(e, 0), 1);
-                Check.due("filled " + k + ", FILL " + n + ": pair", rig.x.entry(e, 1), n + 1);
-                Check.due("filled " + k + ", FILL " + n + ": next is there", rig.x.entry(e + 1 & 3, 0), n > 2 ? 1 : 0);
-            }
-        }
-        filledAnew();
-        writeLeavesIt();
+        Check.sentence("FILLED becomes k", FilledTest::becomes);
+        Check.sentence("(its lowest two bits)", FilledTest::lowestTwoBits);
         Check.end();
     }
 
-    private static void filledAnew() {
+    private static void becomes() {
         Rig rig = new Rig();
-        rig.exec(24, 0, 0, 0);
-        rig.x.filled(3);
-        rig.exec(24, 0, 0, 0);
-        Check.due("the second FILL goes to 3", rig.x.entry(3, 0), 1);
-        Check.due("not to 1", rig.x.entry(1, 0), 0);
-        rig.x.filled(-2);
-        rig.exec(24, 0, 0, 0);
-        Check.due("the third one to 2", rig.x.entry(2, 0), 1);
+        for (int k : new int[] {3, 0, 2, 1, 1}) {
+            rig.x.filled(k);
+            rig.control(Rig.HIGH, 128 * (k + 1));
+            rig.exec(24, 0, 0, 0);
+            Check.due("FILL behind filled " + k, rig.x.entry(k, 1), k + 1);
+        }
+        Check.due("INDEX stays", rig.x.control(Rig.INDEX), 0);
     }
 
-    private static void writeLeavesIt() {
-        Rig rig = new Rig();
-        rig.x.filled(1);
-        rig.exec(23, 0, 0, 0);
-        rig.control(Rig.MODE, 11);
-        rig.exec(24, 0, 0, 0);
-        Check.due("FILL at level 3", rig.code(), 14);
-        rig.exec(24, 0, 0, 0);
-        Check.due("FILL after it goes to 1", rig.x.entry(1, 0), 1);
-        Check.due("and not to 2", rig.x.entry(2, 0), 0);
+    private static void lowestTwoBits() {
+        for (int k : KS) {
+            Rig rig = new Rig();
+            rig.x.filled(k);
+            int low = Math.floorMod(k, 4);
+            for (int n = 0; n < 6; n++) {
+                rig.control(Rig.HIGH, 128 * (n + 1));
+                rig.exec(24, 0, 0, 0);
+                Check.due("filled " + k + ", FILL " + n, rig.x.entry((low + n) % 4, 1), n + 1);
+                Check.due("and the next one", rig.x.entry((low + n + 1) % 4, 1), n > 2 ? n - 2 : 0);
+            }
+        }
     }
 }

@@ -15,15 +15,20 @@ final class Rig {
     static final int EVEN = 9;
     static final int ODD = 10;
     static final int SPACE = 11;
+    static final int KEPT = 12;
     static final int TIME = 14;
     static final int REST = 15;
     static final int REFILL = 16;
     static final int WINDOW = 17;
     static final int EMPTY_BIT = 0x80000000;
+    static final int TIMER_BIT = 16;
     /** VALID, WRITABLE and LEVEL 3: what allows all. */
     static final int FREE = 15;
     static final int GLOBAL = 16;
-    static final int CODE_63 = 63 << 16;
+    /** Where the last instruction of exec, set and control left PLACE. */
+    static final int BEHIND = 12;
+    /** Where spin goes round. */
+    static final int LOOP = 1984;
 
     final TrapMachine x = new TrapMachine();
 
@@ -57,6 +62,13 @@ final class Rig {
         exec(19, 7, 0, k);
     }
 
+    /** Instruction 20: writes those bits of the value to a control register; uses register 6, too. */
+    void controlBits(int k, int value, int bits) {
+        set(6, bits);
+        set(7, value);
+        exec(20, 7, 6, k);
+    }
+
     /** Writes an entry whole and makes it there. */
     void entry(int e, int address, int space, int even, int odd) {
         int spaceBefore = x.control(SPACE);
@@ -70,6 +82,20 @@ final class Rig {
         control(HIGH, 0);
     }
 
+    /** Does steps that change nothing but the timer. */
+    int spin(int steps) {
+        x.load(LOOP, op(12, 0, 0, 0));
+        x.jump(LOOP);
+        return x.run(steps);
+    }
+
+    /** Sets the timer's bit, and leaves the timer as it is at first. */
+    void ring() {
+        control(TIME, 4 | 1);
+        spin(3);
+        control(TIME, 0);
+    }
+
     int code() {
         return x.control(STATUS) >>> 16;
     }
@@ -81,5 +107,12 @@ final class Rig {
         Check.due(what + ": ADDRESS", x.control(ADDRESS), address);
         Check.due(what + ": HIGH", x.control(HIGH), high);
         Check.due(what + ": PLACE", x.register(8), x.control(code == 63 ? REFILL : ENTRY));
+    }
+
+    /** The parts of an entry, as many as are given. */
+    void dueEntry(String what, int e, int... parts) {
+        for (int part = 0; part < parts.length; part++) {
+            Check.due(what + ": entry " + e + ", " + part, x.entry(e, part), parts[part]);
+        }
     }
 }

@@ -1,33 +1,51 @@
-/** Promise 7: what a step is, how many are done, and the timer. */
+/** Promise 7. */
 public final class RunTest {
     public static void main(String[] args) {
-        counts();
-        endsBehindAnException();
-        endsWhenItStops();
-        stepsOfRest();
-        timerOnce();
-        timerAgain();
-        timerAndExceptions();
-        timerInterrupts();
+        Check.sentence("At most n steps are done", RunTest::atMost);
+        Check.sentence("(above 2000 counts as 2000)", RunTest::aboveTwoThousand);
+        Check.sentence("none any more behind one with an exception", RunTest::endsBehindAnException);
+        Check.sentence("or when it has stopped", RunTest::noneWhenStopped);
+        Check.sentence("Answers how many", RunTest::answersHowMany);
+        Check.sentence("(that in which it STOPS, too", RunTest::stopCounts);
+        Check.sentence("though it does nothing)", RunTest::stopDoesNothing);
         Check.end();
     }
 
-    private static void counts() {
+    /** A loop of two words, the first of which counts in register 1. */
+    private static Rig counting() {
         Rig rig = new Rig();
         rig.x.load(64, Rig.op(6, 1, 1, 1));
         rig.x.load(68, Rig.op(12, 0, 0, -1));
         rig.x.jump(64);
-        Check.due("run 0", rig.x.run(0), 0);
-        Check.due("run -1", rig.x.run(-1), 0);
-        Check.due("run of the least", rig.x.run(Integer.MIN_VALUE), 0);
-        Check.due("nothing is done", rig.x.register(1), 0);
+        return rig;
+    }
+
+    private static void atMost() {
+        Rig rig = counting();
+        for (int n : new int[] {0, -1, -2000, -2001, Integer.MIN_VALUE}) {
+            Check.due("run " + n, rig.x.run(n), 0);
+            Check.due("nothing is done", rig.x.register(1), 0);
+            Check.due("PLACE stays", rig.x.register(8), 64);
+        }
+        Check.due("run 1", rig.x.run(1), 1);
+        Check.due("one step", rig.x.register(8), 68);
         Check.due("run 3", rig.x.run(3), 3);
-        Check.due("three steps are done", rig.x.register(1), 2);
-        Check.due("run 2000", rig.x.run(2000), 2000);
-        Check.due("run 1999", rig.x.run(1999), 1999);
-        Check.due("run 2001", rig.x.run(2001), 2000);
-        Check.due("run of the most", rig.x.run(Integer.MAX_VALUE), 2000);
-        Check.due("all of them are done", rig.x.register(1), 2 + 1000 + 999 + 1000 + 1000);
+        Check.due("three more", rig.x.register(8), 64);
+        Check.due("two of them counted", rig.x.register(1), 2);
+        rig.x.line(0, true);
+        rig.control(Rig.MASK, 1);
+        rig.control(Rig.MODE, 12);
+        Check.due("run 0 is no interrupt", rig.x.run(0), 0);
+        Check.due("MODE", rig.x.control(Rig.MODE), 12);
+    }
+
+    private static void aboveTwoThousand() {
+        int[][] runs = {{1999, 1999}, {2000, 2000}, {2001, 2000}, {4000, 2000}, {Integer.MAX_VALUE, 2000}};
+        for (int[] run : runs) {
+            Rig rig = counting();
+            Check.due("run " + run[0], rig.x.run(run[0]), run[1]);
+            Check.due("they are done", rig.x.register(1), (run[1] + 1) / 2);
+        }
     }
 
     private static void endsBehindAnException() {
@@ -43,147 +61,91 @@ public final class RunTest {
         Check.due("state", rig.x.state(), 0);
         Check.due("the next run goes on", rig.x.run(1), 1);
         Check.due("in the handler", rig.x.register(2), 1);
-        Check.due("words of 0 are exceptions", rig.x.run(9), 1);
+        Check.due("up to the next exception", rig.x.run(9), 1);
+        for (int place : new int[] {3, 2048, -4}) {
+            rig.x.jump(place);
+            Check.due("behind a PLACE without a word", rig.x.run(9), 1);
+        }
+        rig.x.line(0, true);
+        rig.control(Rig.MASK, 1);
+        rig.control(Rig.MODE, 12);
+        Check.due("behind an interrupt", rig.x.run(9), 1);
+        rig.control(Rig.REFILL, 128);
+        rig.control(Rig.MODE, 0);
+        Check.due("behind a refill", rig.x.run(9), 1);
+        Check.due("in whose handler it stands", rig.x.register(8), 128);
     }
 
-    private static void endsWhenItStops() {
+    /** Loads at 68 from an address that two entries map. */
+    private static Rig stopping() {
         Rig rig = new Rig();
         rig.entry(0, 0, 0, Rig.half(0, Rig.FREE), Rig.half(1, Rig.FREE));
         rig.entry(1, 1024, 0, Rig.FREE, Rig.FREE);
         rig.entry(2, 1024, 5, Rig.FREE | Rig.GLOBAL, Rig.FREE | Rig.GLOBAL);
-        rig.control(Rig.TIME, 401);
         rig.set(1, 1024);
+        rig.set(2, 5);
+        rig.control(Rig.TIME, 403);
         rig.control(Rig.MODE, 0);
         rig.x.load(64, Rig.op(6, 2, 2, 1));
         rig.x.load(68, Rig.op(10, 2, 1, 0));
         rig.x.jump(64);
-        int rest = rig.x.control(Rig.REST);
-        Check.due("the step that stops counts", rig.x.run(9), 2);
+        return rig;
+    }
+
+    private static void noneWhenStopped() {
+        Rig rig = stopping();
+        rig.x.run(9);
         Check.due("it stopped", rig.x.state(), 2);
+        for (int n : new int[] {1, 9, 2001, 0, -1}) {
+            Check.due("run " + n, rig.x.run(n), 0);
+        }
+        rig.x.line(0, true);
+        Check.due("with a line, too", rig.x.run(9), 0);
         Check.due("PLACE stays", rig.x.register(8), 68);
-        Check.due("register stays", rig.x.register(2), 1);
-        Check.due("LINK stays", rig.x.register(9), 0);
-        Check.due("no exception", rig.x.control(Rig.STATUS), 0);
-        Check.due("ADDRESS stays", rig.x.control(Rig.ADDRESS), 0);
-        Check.due("HIGH stays", rig.x.control(Rig.HIGH), 0);
-        Check.due("the step does nothing to the timer", rig.x.control(Rig.REST), rest - 1);
-        Check.due("no step any more", rig.x.run(9), 0);
-        Check.due("nor time", rig.x.control(Rig.REST), rest - 1);
-        rig.x.line(0, true);
-        Check.due("nor with a line", rig.x.run(1), 0);
+        Check.due("it stays stopped", rig.x.state(), 2);
     }
 
-    private static void stepsOfRest() {
+    private static void answersHowMany() {
         Rig rig = new Rig();
-        rig.control(Rig.MASK, 4);
-        rig.x.load(64, Rig.op(27, 0, 0, 0));
+        rig.x.load(64, Rig.op(6, 1, 1, 1));
         rig.x.load(68, Rig.op(6, 1, 1, 1));
-        rig.x.jump(64);
-        Check.due("a rest goes through all steps", rig.x.run(7), 7);
-        Check.due("PLACE is behind it", rig.x.register(8), 68);
-        rig.x.line(1, true);
-        Check.due("a line not in MASK", rig.x.run(2), 2);
-        Check.due("does not wake it", rig.x.state(), 1);
-        rig.x.line(2, true);
-        Check.due("it wakes in a step only", rig.x.state(), 1);
-        Check.due("the step that wakes it", rig.x.run(1), 1);
-        Check.due("state", rig.x.state(), 0);
-        Check.due("does nothing else", rig.x.register(1), 0);
-        Check.due("the next step", rig.x.run(1), 1);
-        Check.due("does the word", rig.x.register(1), 1);
-    }
-
-    private static void timerOnce() {
-        Rig rig = new Rig();
-        rig.x.load(64, Rig.op(12, 0, 0, 0));
-        rig.control(Rig.TIME, 8 | 1);
-        Check.due("REST counts from the step that writes TIME", rig.x.control(Rig.REST), 7);
-        rig.x.jump(64);
-        rig.x.run(6);
-        Check.due("REST 1", rig.x.control(Rig.REST), 1);
-        Check.due("no timer's bit yet", rig.x.control(Rig.STATUS), 0);
-        rig.x.run(1);
-        Check.due("REST 0", rig.x.control(Rig.REST), 0);
-        Check.due("the timer's bit", rig.x.control(Rig.STATUS), 16);
-        rig.x.run(5);
-        Check.due("REST stays 0", rig.x.control(Rig.REST), 0);
-        Check.due("TIME stays", rig.x.control(Rig.TIME), 9);
-        rig.control(Rig.STATUS, 16);
-        Check.due("the bit is taken away", rig.x.control(Rig.STATUS), 0);
-        rig.control(Rig.TIME, 8);
-        Check.due("not ON", rig.x.control(Rig.REST), 8);
-        rig.x.jump(64);
-        rig.x.run(20);
-        Check.due("does not count", rig.x.control(Rig.REST), 8);
-        rig.control(Rig.TIME, 3);
-        rig.x.jump(64);
-        rig.x.run(20);
-        Check.due("START 0 never ends", rig.x.control(Rig.STATUS), 0);
-    }
-
-    private static void timerAgain() {
-        Rig rig = new Rig();
-        rig.x.load(64, Rig.op(12, 0, 0, 0));
-        rig.control(Rig.TIME, 4 | 3);
-        rig.x.jump(64);
-        rig.x.run(2);
-        Check.due("REST 1", rig.x.control(Rig.REST), 1);
-        rig.x.run(1);
-        Check.due("REST is START again", rig.x.control(Rig.REST), 4);
-        Check.due("the timer's bit", rig.x.control(Rig.STATUS), 16);
-        rig.set(6, 16);
-        rig.exec(20, 6, 6, Rig.STATUS);
-        Check.due("taken away", rig.x.control(Rig.STATUS), 0);
-        rig.x.jump(64);
-        rig.x.run(1);
-        Check.due("comes after the next four", rig.x.control(Rig.STATUS), 0);
-        rig.x.run(1);
-        Check.due("as it does here", rig.x.control(Rig.STATUS), 16);
-        rig.control(Rig.TIME, -1);
-        Check.due("the longest REST", rig.x.control(Rig.REST), 0xFFFC - 1);
-    }
-
-    private static void timerAndExceptions() {
-        Rig rig = new Rig();
-        rig.control(Rig.MASK, 1);
-        rig.control(Rig.TIME, 41);
-        int rest = rig.x.control(Rig.REST);
-        rig.exec(16, 0, 0, 0);
-        Check.due("a step with an exception counts", rig.x.control(Rig.REST), rest - 1);
-        rig.x.jump(3);
-        rig.x.run(1);
-        Check.due("so does one without a word", rig.x.control(Rig.REST), rest - 2);
+        rig.x.load(72, Rig.op(16, 0, 0, 0));
+        for (int n = 0; n <= 5; n++) {
+            rig.x.jump(64);
+            Check.due("run " + n + " up to an exception", rig.x.run(n), Math.min(n, 3));
+        }
         rig.exec(27, 0, 0, 0);
-        rig.x.run(2);
-        Check.due("and those of a rest", rig.x.control(Rig.REST), rest - 5);
-        rig.x.line(0, true);
-        rig.x.run(1);
-        Check.due("and the one that ends it", rig.x.control(Rig.REST), rest - 6);
-        rig.control(Rig.TIME, 41);
-        rig.control(Rig.STATUS, 16);
-        rig.set(7, 12);
-        rest = rig.x.control(Rig.REST);
-        rig.exec(19, 7, 0, Rig.MODE);
-        rig.x.run(1);
-        Check.due("and an interrupt", rig.x.control(Rig.REST), rest - 2);
-        Check.due("which it was", rig.x.control(Rig.BEFORE), 4);
+        for (int n = 0; n <= 5; n++) {
+            Check.due("run " + n + " of a rest", rig.x.run(n), n);
+        }
     }
 
-    private static void timerInterrupts() {
-        Rig rig = new Rig();
-        rig.control(Rig.ENTRY, 256);
-        rig.control(Rig.MASK, 16);
-        rig.control(Rig.TIME, 64 | 3);
-        rig.control(Rig.MODE, 12);
-        rig.x.load(64, Rig.op(12, 0, 0, 0));
-        rig.x.jump(64);
-        int rest = rig.x.control(Rig.REST);
-        Check.due("steps up to the interrupt", rig.x.run(2000), rest + 1);
-        rig.dueException("timer", 0, 64, 0, 0);
-        Check.due("REST after it", rig.x.control(Rig.REST), 63);
-        rig.control(Rig.STATUS, 16);
-        rig.exec(26, 0, 0, 0);
-        Check.due("ENABLED again", rig.x.control(Rig.MODE), 12);
-        Check.due("back", rig.x.register(8), 64);
+    private static void stopCounts() {
+        for (int n = 1; n <= 3; n++) {
+            Rig rig = stopping();
+            Check.due("run " + n, rig.x.run(n), Math.min(n, 2));
+            Check.due("state", rig.x.state(), n == 1 ? 0 : 2);
+        }
+        Rig rig = stopping();
+        rig.x.jump(1024);
+        Check.due("the first step", rig.x.run(9), 1);
+        Check.due("stops it", rig.x.state(), 2);
+    }
+
+    private static void stopDoesNothing() {
+        Rig rig = stopping();
+        rig.x.run(1);
+        int[] before = new int[18];
+        for (int k = 0; k <= 17; k++) {
+            before[k] = rig.x.control(k);
+        }
+        rig.x.run(1);
+        Check.due("it stopped", rig.x.state(), 2);
+        for (int k = 0; k <= 17; k++) {
+            Check.due("control " + k, rig.x.control(k), before[k]);
+        }
+        Check.due("PLACE", rig.x.register(8), 68);
+        Check.due("its register", rig.x.register(2), 6);
+        Check.due("LINK", rig.x.register(9), 0);
     }
 }
