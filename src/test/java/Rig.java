@@ -25,7 +25,7 @@ final class Rig {
     /** VALID, WRITABLE and LEVEL 3: what allows all. */
     static final int FREE = 15;
     static final int GLOBAL = 16;
-    /** Where the last instruction of exec, set and control left PLACE. */
+    /** Where exec and control leave PLACE, if their instruction goes on behind itself. */
     static final int BEHIND = 12;
     /** Where spin goes round. */
     static final int LOOP = 1984;

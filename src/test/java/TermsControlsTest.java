@@ -106,19 +106,23 @@ public final class TermsControlsTest {
         Check.due("code 11 in its place", rig.x.control(Rig.STATUS), 16 | 11 << 16);
     }
 
+    /** All lines are up, the timer's bit is set, and so are all bits of the code. */
     private static Rig withFullStatus() {
         Rig rig = new Rig();
-        rig.x.line(1, true);
-        rig.x.line(2, true);
+        for (int k = 0; k <= 3; k++) {
+            rig.x.line(k, true);
+        }
         rig.ring();
-        rig.exec(17, 0, 0, 0);
-        Check.due("STATUS", rig.x.control(Rig.STATUS), 22 | 12 << 16);
+        rig.control(Rig.MODE, 0);
+        rig.x.run(1);
+        Check.due("STATUS", rig.x.control(Rig.STATUS), 31 | 63 << 16);
         return rig;
     }
 
     private static void timersBitIsTaken() {
-        int taken = 6 | 12 << 16;
+        int taken = 15 | 63 << 16;
         int full = taken | Rig.TIMER_BIT;
+        Rig none = new Rig();
         for (int i = 0; i < 32; i++) {
             int bit = 1 << i;
             Rig rig = withFullStatus();
@@ -128,6 +132,8 @@ public final class TermsControlsTest {
             Rig other = withFullStatus();
             other.controlBits(Rig.STATUS, -1, bit);
             Check.due("bit " + i + " by 20", other.x.control(Rig.STATUS), i == 4 ? taken : full);
+            none.control(Rig.STATUS, bit);
+            Check.due("bit " + i + " is not set", none.x.control(Rig.STATUS), 0);
         }
         Rig rig = withFullStatus();
         rig.control(Rig.STATUS, ~Rig.TIMER_BIT);

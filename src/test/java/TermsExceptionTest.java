@@ -190,10 +190,9 @@ public final class TermsExceptionTest {
         interrupt.control(Rig.MASK, 1);
         interrupt.x.line(0, true);
         interrupt.control(Rig.MODE, 12);
+        interrupt.x.jump(3);
         interrupt.x.run(1);
-        Check.due("interrupt", interrupt.x.control(Rig.BEFORE), 4);
-        Check.due("ADDRESS", interrupt.x.control(Rig.ADDRESS), MARK);
-        Check.due("HIGH", interrupt.x.control(Rig.HIGH), MARK);
+        interrupt.dueException("an interrupt", 0, 3, MARK, MARK);
     }
 
     private static void dueAddress(int word, int code, int address) {

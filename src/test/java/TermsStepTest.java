@@ -117,8 +117,8 @@ public final class TermsStepTest {
         timer.control(Rig.MASK, 16);
         timer.ring();
         timer.control(Rig.MODE, 12);
-        timer.x.run(1);
-        Check.due("the timer's bit", timer.x.control(Rig.BEFORE), 4);
+        Check.due("the timer's bit", timer.spin(9), 1);
+        timer.dueException("the timer's bit", 0, Rig.LOOP, 0, 0);
     }
 
     /** The word at PLACE is not even looked for. */
@@ -193,6 +193,12 @@ public final class TermsStepTest {
         rig.control(Rig.STATUS, Rig.TIMER_BIT);
         rig.spin(9);
         Check.due("REST 0 does not set it again", rig.x.control(Rig.STATUS), 2);
+        Rig twice = new Rig();
+        twice.control(Rig.TIME, 4 | 3);
+        for (int n = 3; n < 20; n++) {
+            twice.spin(n == 3 ? 3 : 1);
+            Check.due("a bit that is set stays so", twice.x.control(Rig.STATUS), Rig.TIMER_BIT);
+        }
         Rig zero = new Rig();
         zero.control(Rig.TIME, 3);
         zero.spin(9);
@@ -277,7 +283,7 @@ public final class TermsStepTest {
         rig.exec(19, 7, 0, Rig.MODE);
         rig.x.run(1);
         Check.due("an interrupt", rig.x.control(Rig.REST), rest - 9);
-        Check.due("which it was", rig.x.control(Rig.BEFORE), 4);
+        rig.dueException("which it was", 0, Rig.BEHIND, 3, 0);
         Rig sleeper = new Rig();
         sleeper.control(Rig.MASK, 16);
         sleeper.control(Rig.TIME, 13);
